@@ -108,13 +108,11 @@ public final class SecondFitting {
     private final byte[] tape = new byte[TAPE];
     private int fed;
     private Plan plan = new Plan();
-    // A SUIT is read into the draft, so that a FAULT leaves the one that there is as it was.
-    private Plan draft = new Plan();
-    private final Reader reader = new Reader(tape, draft);
+    private final Reader reader = new Reader();
     private final Fitting now = new Fitting();
     private final Acts acts = new Acts();
-    private final Pins pins = new Pins(plan);
-    private final Eye eye = new Eye(plan);
+    private final Pins pins = new Pins();
+    private final Eye eye = new Eye();
     private int refusal;
     private int faultTold;
     private int faultPlace = NONE;
@@ -145,16 +143,14 @@ public final class SecondFitting {
             return NONE;
         }
         fed = 0;
-        reader.readAll(n, draft);
+        reader.readAll(tape, n);
         faultTold = reader.found;
         faultPlace = reader.place;
         if (faultTold != 0) {
             refusal = FAULTY;
             return NONE;
         }
-        Plan old = plan;
-        plan = draft;
-        draft = old;
+        plan = reader.handOver(plan);
         now.begin(plan.cloth);
         acts.clear();
         forgetSearches();
@@ -673,7 +669,7 @@ public final class SecondFitting {
         if (!taken(isSeam(s), eighths >= -FARTHEST_PIN && eighths <= FARTHEST_PIN && eighths != 0)) {
             return false;
         }
-        if (!plan.cloth.allows(s, eighths, now.left[s])) {
+        if (!Cloth.allowsBy(plan.cloth.kinds[s], eighths, now.left[s])) {
             refusal = NOT_SO;
         }
         return refusal == FINE;
@@ -935,8 +931,9 @@ public final class SecondFitting {
             return false;
         }
 
-        boolean allows(int s, int eighths, int leftThere) {
-            return eighths <= leftThere && (kinds[s] != STRIPED || eighths % 2 == 0);
+        /** Whether a PIN can be at a seam of a KIND where so much is left. */
+        static boolean allowsBy(int kind, int eighths, int leftThere) {
+            return eighths <= leftThere && (kind != STRIPED || eighths % 2 == 0);
         }
     }
 
@@ -1001,15 +998,15 @@ public final class SecondFitting {
             return fitting.sizes[s] + gives(s, fitting.wear);
         }
 
-        int needsMore(int s, int pose) {
-            if (pose == ARMS_UP && cloth.kinds[s] == PULLING) {
+        static int needsMore(int kind, int pose) {
+            if (pose == ARMS_UP && kind == PULLING) {
                 return 3;
             }
-            return pose == SITTING && cloth.kinds[s] == WORN ? 2 : 0;
+            return pose == SITTING && kind == WORN ? 2 : 0;
         }
 
         int amissOf(Fitting fitting, int s, int kept, int pose) {
-            return sizeOf(fitting, s) - measures.bodyBy(cloth.at[s], kept) - needsMore(s, pose);
+            return sizeOf(fitting, s) - measures.bodyBy(cloth.at[s], kept) - needsMore(cloth.kinds[s], pose);
         }
 
         int sumAmiss(Fitting fitting, int kept, int pose) {
@@ -1148,13 +1145,14 @@ public final class SecondFitting {
 
         boolean meetsBy(Fitting fitting, int k, int eighths) {
             int first = cloth.firsts[k];
-            return cloth.allows(first, eighths, fitting.left[first]) && liesBy(fitting, k, eighths) == cloth.lies[k];
+            return Cloth.allowsBy(cloth.kinds[first], eighths, fitting.left[first])
+                && liesBy(fitting, k, eighths) == cloth.lies[k];
         }
     }
 
     /** The TOKENS of a text, one at a time. */
     private static final class Tokens {
-        private final byte[] text;
+        private byte[] text = new byte[0];
         private int end;
         private int behind;
         int at;
@@ -1163,12 +1161,9 @@ public final class SecondFitting {
         // The bytes of a WORD as one number: there are eight of them at most.
         long word;
 
-        Tokens(byte[] text) {
-            this.text = text;
-        }
-
-        void open(int n) {
-            end = Math.min(n, text.length);
+        void open(byte[] bytes, int n) {
+            text = bytes;
+            end = Math.min(n, bytes.length);
             behind = 0;
             advance();
         }
@@ -1224,28 +1219,23 @@ public final class SecondFitting {
      * tells is looked at before the text goes on behind it, as its FAULTS lie at it.
      */
     private static final class Reader {
-        private final Tokens tokens;
+        private final Tokens tokens = new Tokens();
         private final long[] measureNames = new long[MEASURES];
         private final long[] seamNames = new long[SEAMS];
-        private Plan plan;
+        // A draft, so that a FAULT leaves the SUIT that there is as it was.
+        private Plan plan = new Plan();
         private boolean begun;
         // What the TOKEN tells: a WHOLE, a KIND, or which one a NAME is.
         private int told;
         int found;
         int place = NONE;
 
-        Reader(byte[] text, Plan plan) {
-            tokens = new Tokens(text);
-            this.plan = plan;
-        }
-
-        void readAll(int n, Plan into) {
-            plan = into;
+        void readAll(byte[] text, int n) {
             plan.clear();
             begun = false;
             found = 0;
             place = NONE;
-            tokens.open(n);
+            tokens.open(text, n);
             boolean more = true;
             for (int lines = 0; lines <= TAPE && more; lines++) {
                 more = readLine() && isParted();
@@ -1253,6 +1243,13 @@ public final class SecondFitting {
             if (found == 0 && plan.cloth.seams == 0) {
                 spoilt(LACKS);
             }
+        }
+
+        /** Gives what was read, and takes one that isn't needed any more for the next. */
+        Plan handOver(Plan old) {
+            Plan read = plan;
+            plan = old;
+            return read;
         }
 
         private boolean spoilt(int number) {
@@ -1537,39 +1534,34 @@ public final class SecondFitting {
 
     /** What is AMISS standing and what is left, laid out to try pins on without touching the suit. */
     private static final class Board {
-        Plan plan;
         int seams;
+        int within;
+        final int[] kinds = new int[SEAMS];
+        final int[] effects = new int[SEAMS * SEAMS];
+        final int[] touched = new int[SEAMS];
         final int[] off = new int[SEAMS];
         final int[] left = new int[SEAMS];
 
-        Board(Plan plan) {
-            this.plan = plan;
-        }
-
-        void lay(Plan of, Fitting now, int kept) {
-            plan = of;
-            seams = of.cloth.seams;
+        void lay(Plan plan, Fitting now, int kept) {
+            seams = plan.cloth.seams;
+            within = plan.within;
+            System.arraycopy(plan.cloth.kinds, 0, kinds, 0, SEAMS);
+            System.arraycopy(plan.cloth.effects, 0, effects, 0, SEAMS * SEAMS);
+            System.arraycopy(now.left, 0, left, 0, SEAMS);
             for (int s = 0; s < seams; s++) {
-                off[s] = of.amissOf(now, s, kept, STANDING);
-                left[s] = now.left[s];
+                touched[s] = plan.cloth.touchedBy(s);
+                off[s] = plan.amissOf(now, s, kept, STANDING);
             }
         }
 
-        void copyFrom(Board other) {
-            plan = other.plan;
-            seams = other.seams;
-            System.arraycopy(other.off, 0, off, 0, SEAMS);
-            System.arraycopy(other.left, 0, left, 0, SEAMS);
-        }
-
         boolean allows(int s, int eighths) {
-            return plan.cloth.allows(s, eighths, left[s]);
+            return Cloth.allowsBy(kinds[s], eighths, left[s]);
         }
 
         /** Puts a pin; put again by as much the other way, all is as it was. */
         void put(int s, int eighths) {
             for (int other = 0; other < seams; other++) {
-                off[other] += plan.cloth.effects[s * SEAMS + other] * eighths;
+                off[other] += effects[s * SEAMS + other] * eighths;
             }
             left[s] -= eighths;
         }
@@ -1577,7 +1569,7 @@ public final class SecondFitting {
         int wrongOnes() {
             int bits = 0;
             for (int s = 0; s < seams; s++) {
-                if (Math.abs(off[s]) > plan.within) {
+                if (Math.abs(off[s]) > within) {
                     bits |= 1 << s;
                 }
             }
@@ -1587,7 +1579,7 @@ public final class SecondFitting {
         int sumIn(int pose) {
             int sum = 0;
             for (int s = 0; s < seams; s++) {
-                sum += Math.abs(off[s] - plan.needsMore(s, pose));
+                sum += Math.abs(off[s] - Plan.needsMore(kinds[s], pose));
             }
             return sum;
         }
@@ -1603,18 +1595,13 @@ public final class SecondFitting {
 
     /** The BEST PIN and the FEWEST. */
     private static final class Pins {
-        private final Board board;
-        private final int[] touched = new int[SEAMS];
+        private final Board board = new Board();
         // The PIN at each seam by the FEWEST.
         final int[] row = new int[SEAMS];
         int fewestFound = NOTHING;
         int bestSeam = NOTHING;
         int bestEighths;
         int bestSum;
-
-        Pins(Plan plan) {
-            board = new Board(plan);
-        }
 
         void lay(Plan plan, Fitting now, int kept) {
             board.lay(plan, now, kept);
@@ -1650,9 +1637,6 @@ public final class SecondFitting {
         }
 
         void findFewest() {
-            for (int s = 0; s < board.seams; s++) {
-                touched[s] = board.plan.cloth.touchedBy(s);
-            }
             Arrays.fill(row, 0);
             fewestFound = NOTHING;
             for (int count = 0; count <= MOST_PINS && fewestFound == NOTHING; count++) {
@@ -1701,12 +1685,12 @@ public final class SecondFitting {
         private boolean lastFrom(int s) {
             int wrongOnes = board.wrongOnes();
             for (int at = s; at < board.seams; at++) {
-                if ((wrongOnes & ~touched[at]) == 0 && lastAt(at, -FARTHEST_PIN, -1)) {
+                if ((wrongOnes & ~board.touched[at]) == 0 && lastAt(at, -FARTHEST_PIN, -1)) {
                     return true;
                 }
             }
             for (int at = board.seams - 1; at >= s; at--) {
-                if ((wrongOnes & ~touched[at]) == 0 && lastAt(at, 1, FARTHEST_PIN)) {
+                if ((wrongOnes & ~board.touched[at]) == 0 && lastAt(at, 1, FARTHEST_PIN)) {
                     return true;
                 }
             }
@@ -1718,15 +1702,15 @@ public final class SecondFitting {
             int least = from;
             int most = Math.min(to, board.left[s]);
             for (int other = 0; other < board.seams; other++) {
-                int effect = board.plan.cloth.effects[s * SEAMS + other];
+                int effect = board.effects[s * SEAMS + other];
                 int steps = Math.abs(effect);
                 if (steps != 0) {
                     int off = effect < 0 ? -board.off[other] : board.off[other];
-                    least = Math.max(least, -Math.floorDiv(board.plan.within + off, steps));
-                    most = Math.min(most, Math.floorDiv(board.plan.within - off, steps));
+                    least = Math.max(least, -Math.floorDiv(board.within + off, steps));
+                    most = Math.min(most, Math.floorDiv(board.within - off, steps));
                 }
             }
-            if (board.plan.cloth.kinds[s] == STRIPED && least % 2 != 0) {
+            if (board.kinds[s] == STRIPED && least % 2 != 0) {
                 least++;
             }
             if (least > most) {
@@ -1739,19 +1723,22 @@ public final class SecondFitting {
 
     /** Pinning BY EYE, round and round. */
     private static final class Eye {
-        private final Board start;
-        private final Board board;
+        private final Board board = new Board();
+        private final int[] offAtFirst = new int[SEAMS];
+        private final int[] leftAtFirst = new int[SEAMS];
         private final int[] order = new int[SEAMS];
         final int[] bestOrder = new int[SEAMS];
         int bestRounds = NOTHING;
 
-        Eye(Plan plan) {
-            start = new Board(plan);
-            board = new Board(plan);
+        void lay(Plan plan, Fitting now, int kept) {
+            board.lay(plan, now, kept);
+            System.arraycopy(board.off, 0, offAtFirst, 0, SEAMS);
+            System.arraycopy(board.left, 0, leftAtFirst, 0, SEAMS);
         }
 
-        void lay(Plan plan, Fitting now, int kept) {
-            start.lay(plan, now, kept);
+        private void layAgain() {
+            System.arraycopy(offAtFirst, 0, board.off, 0, SEAMS);
+            System.arraycopy(leftAtFirst, 0, board.left, 0, SEAMS);
         }
 
         int roundsInOrder() {
@@ -1785,20 +1772,20 @@ public final class SecondFitting {
 
         /** Goes on to the next order by seams; false behind the last. */
         private boolean nextOrder() {
-            int turn = start.seams - 2;
+            int turn = board.seams - 2;
             while (turn >= 0 && order[turn] > order[turn + 1]) {
                 turn--;
             }
             if (turn < 0) {
                 return false;
             }
-            int other = start.seams - 1;
+            int other = board.seams - 1;
             while (other > turn && order[other] < order[turn]) {
                 other--;
             }
             swap(turn, other);
             int low = turn + 1;
-            int high = start.seams - 1;
+            int high = board.seams - 1;
             while (low < high) {
                 swap(low, high);
                 low++;
@@ -1814,7 +1801,7 @@ public final class SecondFitting {
         }
 
         private int roundsUpTo(int limit) {
-            board.copyFrom(start);
+            layAgain();
             for (int rounds = 0; rounds <= limit; rounds++) {
                 if (board.wrongOnes() == 0) {
                     return rounds;
@@ -1843,7 +1830,7 @@ public final class SecondFitting {
         private int byEye(int s) {
             int most = Math.min(FARTHEST_PIN, board.left[s]);
             int eighths = Math.max(-FARTHEST_PIN, Math.min(most, -board.off[s]));
-            if (board.plan.cloth.kinds[s] == STRIPED) {
+            if (board.kinds[s] == STRIPED) {
                 eighths -= eighths % 2;
             }
             return eighths;
