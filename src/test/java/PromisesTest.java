@@ -202,6 +202,7 @@ public final class PromisesTest {
         taken("suit within1wedding9;measure m body40holds0grows0;seam s plain at m size40left0", 1);
         taken(" suit  within 001 wedding 09 ; measure abcdefgh body 400 holds 20 grows 9 ;"
             + " seam body worn at abcdefgh size 500 left 20  ", 1);
+        taken("suit within 0 wedding 1;measure m body 40 holds 0 grows 0;seam s plain at m size 40 left 0", 1);
         taken("suit within 9 wedding 99;measure at body 40 holds 0 grows 0;seam plain plain at at size 20 left 0", 1);
     }
 
@@ -527,7 +528,25 @@ public final class PromisesTest {
         // It need not fit sitting or with arms up, nor need stripes meet.
         x = bare("seam p pulling at m size 100 left 0;seam w worn at m size 100 left 0;stripe p w 5");
         CHECK.fine(x, "standing alone", x.fewest(0), 0);
+        x = bare(seam("a", 100, 0) + ";" + seam("b", 109, 0) + ";" + seam("c", 91, 9) + ";" + seam("d", 100, 0)
+            + ";seam e striped at m size 96 left 4");
+        CHECK.fine(x, "three of five", x.fewest(0), 3);
+        row(x, "three of five", 0, -9, 9, 0, 4);
+        // Of two pins: a by -2 and b by 2 do, but a by -3 and b by 3, too, and so on: the least at a first.
+        x = Check.fitting("suit within 1 wedding 9;measure m body 100 holds 0 grows 0;" + seam("a", 102, 9) + ";"
+            + seam("b", 98, 9));
+        CHECK.fine(x, "two", x.fewest(0), 2);
+        row(x, "two", -3, 1);
         x = bare(seam("a", 102, 0));
+        x.fewest(0);
+        Check.suitOf(x, BARE + seam("a", 100, 0));
+        CHECK.fine(x, "of the suit now", x.fewest(0), 0);
+        x = bare(seam("a", 102, 0));
+        x.mark();
+        x.pin(0, -2);
+        x.fewest(0);
+        x.back(0);
+        CHECK.fine(x, "as by the mark", x.fewest(0), 1);
         x.fewest(0);
         x.pin(0, -2);
         CHECK.fine(x, "as it is now", x.fewest(0), 0);
@@ -549,6 +568,16 @@ public final class PromisesTest {
         CHECK.due("like seams", x.best(0), 0);
         CHECK.due("by", x.bestBy(0), 1);
         CHECK.due("leaves", x.bestLeaves(0), 2);
+        x = bare("seam w worn at m size 101 left 0");
+        CHECK.due("standing alone", x.bestBy(0), -1);
+        CHECK.due("standing alone", x.bestLeaves(0), 0);
+        CHECK.due("out by 9", bare(seam("a", 90, 12)).bestBy(0), 9);
+        CHECK.due("in by 9", bare(seam("a", 110, 0)).bestBy(0), -9);
+        x = bare(seam("a", 98, 2));
+        x.best(0);
+        x.pin(0, 2);
+        CHECK.due("none any more", x.best(0), -2);
+        CHECK.due("none any more by", x.bestBy(0), 0);
         x = bare(seam("a", 99, 0));
         CHECK.fine(x, "none", x.best(0), -2);
         CHECK.fine(x, "none by", x.bestBy(0), 0);
@@ -578,6 +607,11 @@ public final class PromisesTest {
         CHECK.due("leaves", x.bestAllLeaves(0), 3);
         CHECK.due("at the first", x.bestAll(0), 0);
         CHECK.due("by the least", x.bestAllBy(0), 1);
+        x = bare("seam p pulling at m size 101 left 9;seam w worn at m size 104 left 9");
+        // 5, 3 and 6: w in by 3 leaves 2, 2 and 3, in by 4 leaves 1, 3 and 2; the least is -4.
+        CHECK.due("at w", x.bestAll(0), 1);
+        CHECK.due("by the least", x.bestAllBy(0), -4);
+        CHECK.due("leaves", x.bestAllLeaves(0), 3);
         CHECK.refused(x, "bestAll", x.bestAll(100), -1, 2);
         CHECK.refused(x, "bestAllBy", x.bestAllBy(-1), -1000, 2);
         CHECK.refused(x, "bestAllLeaves", x.bestAllLeaves(100), -1, 2);
@@ -647,6 +681,18 @@ public final class PromisesTest {
         for (int i = 0; i < 4; i++) {
             CHECK.due("the first order, at " + i, x.orderAt(0, i), order[i]);
         }
+        // All six the other way round is the last of all orders.
+        x = bare(seam("a", 101, 0) + ";" + seam("b", 100, 0) + ";" + seam("c", 100, 0) + ";" + seam("d", 100, 0) + ";"
+            + seam("e", 100, 0) + ";" + seam("f", 101, 0) + ";pull f e 1;pull e d 1;pull d c 1;pull c b 1;pull b a 1");
+        CHECK.due("one round of six", x.orders(0), 1);
+        CHECK.due("the last first", x.orderAt(0, 0), 5);
+        CHECK.due("the first last", x.orderAt(0, 5), 0);
+        CHECK.due("the order is new for each day", x.orderAt(0, 1), 4);
+        x.orders(0);
+        Check.suitOf(x, BARE + seam("a", 101, 0) + ";feast 9 chance 0");
+        CHECK.due("of the suit now", x.orderAt(0, 0), 0);
+        CHECK.due("on another day", x.orders(9), 0);
+        CHECK.due("on the day again", x.orders(8), 1);
         x = bare(seam("a", 100, 0) + ";" + seam("b", 100, 0));
         CHECK.due("at once", x.orders(0), 0);
         CHECK.due("at once by seams", x.orderAt(0, 0), 0);
@@ -733,6 +779,9 @@ public final class PromisesTest {
         CHECK.due("every second feast", x.visits(), 3);
         CHECK.due("the second", x.visitAt(1), 20);
         CHECK.due("on the wedding too", x.visitAt(2), 40);
+        x = bare(seam("a", 100, 0) + ";feast 0 chance 1;feast 1 chance 1;feast 2 chance 1");
+        CHECK.due("day by day", x.visits(), 3);
+        CHECK.due("the day behind", x.visitAt(1), 1);
     }
 
     private static void when() {
@@ -826,6 +875,7 @@ public final class PromisesTest {
         CHECK.due("none by a pull", metBy(104, 9, "plain", ";pull a b 1", 1), 100);
         CHECK.due("none by a pull of three", metBy(104, 9, "plain", ";pull a b 3", 2), 100);
         CHECK.due("below 0", metBy(97, 9, "plain", "", 4), -1);
+        CHECK.due("in by 7", metBy(100, 0, "plain", "", 1), -7);
         SecondFitting x = coat();
         CHECK.refused(x, "meetBy 2", x.meetBy(2), -1000, 1);
         CHECK.refused(x, "meetBy -1", x.meetBy(-1), -1000, 1);
@@ -847,6 +897,10 @@ public final class PromisesTest {
         CHECK.fine(x, "5 and 5 days", x.tight(0, 5), 99);
         CHECK.fine(x, "5 and 14 days", x.tight(0, 14), 99);
         CHECK.fine(x, "5 and 15 days", x.tight(0, 15), 98);
+        x.wear(15);
+        CHECK.fine(x, "what it gave is given", x.tight(0, 9), 100);
+        CHECK.fine(x, "20 and 10 days", x.tight(0, 10), 101 - 1);
+        x.undo();
         x.days(5);
         CHECK.fine(x, "up to day 99", x.tight(0, 89), 102 - 9);
         CHECK.refused(x, "beyond day 99", x.tight(0, 90), -1, 2);
@@ -875,6 +929,9 @@ public final class PromisesTest {
         CHECK.fine(x, "60 of them", x.months(65536, 60), 60);
         x = Check.fitting("suit within 1 wedding 9;measure m body 100 holds 0 grows 0;" + seam("a", 101, 0));
         CHECK.fine(x, "within", x.months(3, 7), 7);
+        SecondFitting y = bare("seam w worn at m size 100 left 0;seam p pulling at m size 100 left 0");
+        CHECK.fine(y, "standing", y.month(3), 0);
+        CHECK.fine(y, "standing", y.months(3, 60), 60);
         CHECK.fine(x, "what is amiss", x.month(3), 1);
     }
 
@@ -899,6 +956,7 @@ public final class PromisesTest {
         CHECK.refused(x, "pin by 10", x.pin(0, 10), -1, 2);
         CHECK.refused(x, "pin by -10", x.pin(0, -10), -1, 2);
         CHECK.due("refused ones are no acts", x.size(10), 3);
+        CHECK.fine(x, "out by 9", x.pin(0, 9), 103);
         x.wear(10);
         CHECK.fine(x, "a worn one", x.pin(3, 1), 62);
     }
@@ -935,6 +993,11 @@ public final class PromisesTest {
         x.undo();
         x.undo();
         CHECK.fine(x, "before the first", x.before(), 7);
+        SecondFitting y = bare("seam w worn at m size 103 left 0");
+        y.pin(0, -2);
+        CHECK.fine(y, "better standing", y.better(), 1);
+        y.pin(0, 1);
+        CHECK.fine(y, "not better standing", y.better(), 0);
         x.undo();
         CHECK.fine(x, "nothing again", x.before(), -2);
     }
