@@ -1157,6 +1157,7 @@ public final class SecondFitting {
         private int behind;
         int at;
         int sort;
+        // What a WHOLE is.
         int whole;
         // The bytes of a WORD as one number: there are eight of them at most.
         long word;
@@ -1168,49 +1169,38 @@ public final class SecondFitting {
             advance();
         }
 
+        /** Goes on to the TOKEN behind this one. */
         void advance() {
             at = behind;
             while (at < end && text[at] == ' ') {
                 at++;
             }
-            behind = at;
-            if (at >= end) {
-                sort = END;
-            } else if (isLetter(text[at])) {
-                takeWord();
-            } else if (isDigit(text[at])) {
-                takeWhole();
-            } else {
-                sort = text[at] == ';' ? PARTING : NO_TOKEN;
-                behind = at + 1;
-            }
-        }
-
-        // More letters or digits than a TOKEN has are none, from the first of them that stand together on.
-        private void takeWord() {
+            sort = at < end ? sortOf(text[at]) : END;
+            behind = Math.min(at + 1, end);
             word = 0;
-            while (behind < end && isLetter(text[behind])) {
-                word = word << 8 | text[behind];
-                behind++;
-            }
-            sort = behind - at <= WORD_LETTERS ? WORD : NO_TOKEN;
-        }
-
-        private void takeWhole() {
             whole = 0;
-            while (behind < end && isDigit(text[behind])) {
-                whole = whole * 10 + (text[behind] - '0');
-                behind++;
+            if (sort == WORD || sort == WHOLE) {
+                behind = at;
+                while (behind < end && sortOf(text[behind]) == sort) {
+                    word = word << 8 | text[behind];
+                    whole = whole * 10 + text[behind] - '0';
+                    behind++;
+                }
+                // More signs that stand together than a TOKEN has are none, from the first on.
+                if (behind - at > (sort == WORD ? WORD_LETTERS : WHOLE_DIGITS)) {
+                    sort = NO_TOKEN;
+                }
             }
-            sort = behind - at <= WHOLE_DIGITS ? WHOLE : NO_TOKEN;
         }
 
-        private static boolean isLetter(byte sign) {
-            return sign >= 'a' && sign <= 'z';
-        }
-
-        private static boolean isDigit(byte sign) {
-            return sign >= '0' && sign <= '9';
+        private static int sortOf(byte sign) {
+            if (sign >= 'a' && sign <= 'z') {
+                return WORD;
+            }
+            if (sign >= '0' && sign <= '9') {
+                return WHOLE;
+            }
+            return sign == ';' ? PARTING : NO_TOKEN;
         }
     }
 
