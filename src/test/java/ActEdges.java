@@ -132,6 +132,7 @@ final class ActEdges {
         SecondFitting x = Makers.bare(Makers.seam("a", "worn", 100, 9), plain("b", 100, 3), "pull a b 2");
         x.pin(0, 4);
         x.wear(10);
+        x.seam(9, 9);
         told.fine(x, "wear", x.undo() ? 1 : 0, 1);
         told.due("the day", x.size(8), 0);
         told.due("wear", x.size(9), 0);

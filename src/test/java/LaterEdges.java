@@ -298,6 +298,10 @@ final class LaterEdges {
         for (int[] one : due) {
             told.fine(x, "behind " + one[0], x.tight(0, one[0]), one[1]);
         }
+        told.due("91 days", x.tight(0, 91), -1);
+        told.due("91 days, trouble", x.trouble(), 2);
+        told.due("-1 days", x.tight(0, -1), -1);
+        told.due("-1 days, trouble", x.trouble(), 2);
         told.fine(x, "what gives nothing", x.tight(1, 89), 102);
         told.fine(x, "what gives nothing, on a feast", x.tight(1, 90), 103);
         x.wear(9);
@@ -314,6 +318,10 @@ final class LaterEdges {
         told.fine(x, "on day 99", x.tight(0, 0), 104);
         told.due("on day 99, one more", x.tight(0, 1), -1);
         told.due("on day 99, one more, trouble", x.trouble(), 2);
+        x = Makers.bare(Makers.seam("a", "worn", 90, 0));
+        x.wear(15);
+        told.fine(x, "15 and 4", x.tight(0, 4), 100);
+        told.fine(x, "15 and 5", x.tight(0, 5), 99);
         // It really fits then: cut so, nothing is amiss behind the wear.
         SecondFitting y = Makers.bare(Makers.seam("a", "worn", 99, 0), "feast 30 chance 0");
         told.due("as it is", y.tight(0, 20), 98);

@@ -107,6 +107,17 @@ final class NowEdges {
         Check.feedText(x, text + ";seam t plain at m size 90 left 7");
         told.fine(x, "the first n", x.suit(text.length()), 1);
         told.due("bytes", x.size(12), 0);
+        // Nothing of suits ahead of it, however many there were.
+        SecondFitting y = Makers.full();
+        y.suit(1000);
+        for (int times = 0; times < 3; times++) {
+            told.fine(y, "one seam", Check.suitOf(y, Makers.BARE + Makers.plain("s", 90, 7)), 1);
+            told.due("pulls, stripes, feasts, READ", y.size(4) + y.size(5) + y.size(6) + y.size(7), 0);
+            told.due("reach", y.reach(0), 1);
+            told.fine(y, "all there is room for", Check.suitOf(y, Makers.BARE + Makers.six(100, 100)), 6);
+            told.due("reach of the first", y.reach(0), 1);
+            told.fine(y, "the coat", Check.suitOf(y, Makers.COAT), 4);
+        }
         told.of(3, "NONE: 2 (THE TAPE stays);");
         for (int n : new int[] {-1, 41, 1000, 1001, Integer.MIN_VALUE, Integer.MAX_VALUE}) {
             told.refused(Makers::worked, "suit(" + n + ")", one -> one.suit(n), -1, 2);
@@ -119,10 +130,10 @@ final class NowEdges {
         told.faulty(Makers::full, Makers.BARE + "seam s plain at m size 19 left 0", 4, Makers.BARE.length() + 23);
         told.faulty(Makers::blank, "suit within 1", 1, 13);
         told.faulty(Makers::worked, "", 1, 0);
-        SecondFitting y = Makers.worked();
-        told.due("a part of the tape", y.suit(3), -1);
-        told.due("a part of the tape, trouble", y.trouble(), 4);
-        told.due("the rest is gone, too", y.size(12), 0);
+        x = Makers.worked();
+        told.due("a part of the tape", x.suit(3), -1);
+        told.due("a part of the tape, trouble", x.trouble(), 4);
+        told.due("the rest is gone, too", x.size(12), 0);
     }
 
     private void fault() {
@@ -337,12 +348,12 @@ final class NowEdges {
             told.due("by " + off[0] + " not", Makers.bare(seams + (off[1] + 1) % 8).meets(), 0);
         }
         told.of(18, "Of a STRIPE 0 its first seam, 1 the second, 2 how it must lie, 3 how it lies NOW.");
-        SecondFitting x = Makers.bare(Makers.plain("a", 100, 9), Makers.seam("b", "worn", 101, 0), "stripe b a 7");
-        int[] row = {1, 0, 7, 1};
+        SecondFitting x = Makers.bare(Makers.plain("a", 100, 9), Makers.seam("b", "worn", 105, 0), "stripe b a 7");
+        int[] row = {1, 0, 7, 5};
         for (int what = 0; what < 4; what++) {
             told.fine(x, "what " + what, x.stripe(0, what), row[what]);
         }
-        x.pin(0, 2);
+        x.pin(0, 6);
         told.fine(x, "pinned", x.stripe(0, 3), 7);
         x.wear(10);
         told.fine(x, "worn", x.stripe(0, 3), 0);

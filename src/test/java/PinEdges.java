@@ -110,6 +110,23 @@ final class PinEdges {
         row("three", Makers.bare(plain("a", 109, 0), plain("b", 100, 9), plain("c", 91, 9),
             plain("d", 100, 9), plain("e", 100, 9), striped("f", 92, 8)), -9, 0, 9, 0, 0, 8);
         row("by -1", Makers.bare(plain("a", 101, 9)), -1);
+        // What there is NOW counts, whatever was asked for ahead of it.
+        SecondFitting x = Makers.bare(plain("a", 101, 9), plain("b", 102, 9));
+        x.mark();
+        row("both", x, -1, -2);
+        x.pin(0, -1);
+        row("pinned", x, 0, -2);
+        told.fine(x, "pinned, how many", x.fewest(0), 1);
+        x.undo();
+        row("undone", x, -1, -2);
+        told.fine(x, "undone, how many", x.fewest(0), 2);
+        x.pin(1, -2);
+        row("pinned", x, -1, 0);
+        x.back(0);
+        row("gone back", x, -1, -2);
+        Check.suitOf(x, Makers.BARE + plain("a", 100, 0));
+        row("another suit", x, 0);
+        told.fine(x, "another suit, how many", x.fewest(0), 0);
     }
 
     private void best(String what, SecondFitting x, int seam, int by, int leaves) {
@@ -127,6 +144,8 @@ final class PinEdges {
         best("out by what is even", Makers.bare(striped("a", 90, 3)), 0, 2, 8);
         best("in by what is even", Makers.bare(striped("a", 120, 0)), 0, -8, 12);
         best("where it is most", Makers.bare(plain("a", 101, 0), plain("b", 95, 5)), 1, 5, 1);
+        best("standing alone", Makers.bare(Makers.seam("a", "pulling", 100, 9)), -2, 0, 0);
+        best("standing alone", Makers.bare(Makers.seam("a", "worn", 102, 9)), 0, -2, 0);
         best("by a pull", Makers.bare(plain("a", 101, 0), plain("b", 96, 0), "pull a b 4"), 0, -1, 0);
         told.of(22, "BEST PIN: its seam; -2 none.");
         best("nothing is amiss", Makers.bare(plain("a", 100, 9)), -2, 0, 0);
@@ -140,6 +159,11 @@ final class PinEdges {
         SecondFitting x = Makers.bare(plain("a", 101, 9), "feast 99 chance 0");
         told.due("on the feast", x.bestLeaves(99), 0);
         told.due("on the feast none", x.best(99), -2);
+        told.due("on another day again", x.best(98), 0);
+        x.pin(0, -1);
+        best("as it is NOW", x, -2, 0, 0);
+        x.undo();
+        best("as it is again", x, 0, -1, 0);
     }
 
     private void bestOfLikeOnes() {
@@ -167,6 +191,8 @@ final class PinEdges {
         bestAll("as amiss either way", Makers.bare(Makers.seam("a", "worn", 101, 9)), -2, 0, 1);
         bestAll("nothing is left", Makers.bare(Makers.seam("a", "worn", 100, 0)), -2, 0, 2);
         bestAll("in by 9", Makers.bare(Makers.seam("a", "worn", 120, 0)), 0, -9, 11);
+        // 30, 28 and 27: the second in by 9 leaves 21, 19 and 18, the first 21, 19 and 22.
+        bestAll("standing", Makers.bare(Makers.seam("a", "pulling", 110, 0), Makers.seam("b", "worn", 120, 0)), 1, -9, 21);
         bestAll("the first seam", Makers.bare(plain("a", 101, 0), plain("b", 101, 0)), 0, -1, 1);
         told.of(25, "BEST PIN OF ALL POSES: its seam; -2 none.");
         told.due("none", Makers.bare(plain("a", 100, 9)).bestAll(0), -2);
@@ -273,6 +299,16 @@ final class PinEdges {
         order("the second first", Makers.bare(plain("a", 104, 0), plain("b", 97, 3), "pull b a 1"), 1, 1, 0);
         order("the last first", Makers.bare(plain("a", 101, 0), plain("b", 101, 0), plain("c", 101, 0),
             "pull c a 1"), 1, 1, 2, 0);
+        String four = String.join(";", plain("a", 101, 0), plain("b", 101, 0), plain("c", 101, 0), plain("d", 101, 0));
+        order("b, a", Makers.bare(four, "pull b a 1"), 1, 1, 0, 2, 3);
+        order("c, b", Makers.bare(four, "pull c b 1"), 1, 0, 2, 1, 3);
+        order("d, c", Makers.bare(four, "pull d c 1"), 1, 0, 1, 3, 2);
+        order("d, b", Makers.bare(four, "pull d b 1"), 1, 0, 2, 3, 1);
+        order("c, a", Makers.bare(four, "pull c a 1"), 1, 1, 2, 0, 3);
+        order("d, a", Makers.bare(four, "pull d a 1"), 1, 1, 2, 3, 0);
+        order("d ahead of all", Makers.bare(four, "pull d a 1;pull d b 1;pull d c 1"), 1, 3, 0, 1, 2);
+        order("b, a and d, c", Makers.bare(four, "pull b a 1;pull d c 1"), 1, 1, 0, 3, 2);
+        order("c, b, a", Makers.bare(four, "pull c b 1;pull b a 1"), 1, 2, 1, 0, 3);
         order("the last of all orders", Makers.bare(plain("a", 101, 0), plain("b", 100, 0), plain("c", 100, 0),
             plain("d", 100, 0), plain("e", 100, 0), plain("f", 101, 0),
             "pull f e 1;pull e d 1;pull d c 1;pull c b 1;pull b a 1"), 1, 5, 4, 3, 2, 1, 0);
@@ -281,6 +317,23 @@ final class PinEdges {
         told.due("20 rounds", Makers.bare(plain("a", 280, 0)).orders(0), 20);
         told.due("21 rounds", Makers.bare(plain("a", 281, 0)).orders(0), -2);
         told.due("none settles", Makers.bare(plain("a", 99, 0), plain("b", 100, 0)).orders(0), -2);
+        SecondFitting x = Makers.bare(plain("a", 104, 0), plain("b", 97, 3), "pull b a 1;feast 9 chance 0");
+        x.mark();
+        told.fine(x, "as it is", x.orders(0), 1);
+        told.fine(x, "on another day", x.orders(9), -2);
+        x.pin(1, -1);
+        told.fine(x, "pinned", x.orders(0), 1);
+        x.pin(0, -9);
+        told.fine(x, "pinned again", x.orders(0), 1);
+        x.undo();
+        x.undo();
+        told.fine(x, "undone", x.orders(9), -2);
+        x.pin(0, -9);
+        told.fine(x, "pinned again", x.orders(9), -2);
+        x.back(0);
+        told.fine(x, "gone back", x.orders(0), 1);
+        Check.suitOf(x, Makers.BARE + plain("a", 100, 0));
+        told.fine(x, "another suit", x.orders(0), 0);
         told.of(31, "The i-th seam of it.");
         order("one seam", Makers.bare(plain("a", 280, 0)), 20, 0);
         order("at once, by seams", Makers.bare(plain("a", 100, 0), plain("b", 100, 0), plain("c", 100, 0),
