@@ -1548,6 +1548,11 @@ public final class SecondFitting {
             return Cloth.allowsBy(kinds[s], eighths, left[s]);
         }
 
+        /** Whether one of two seams pulls at the other. */
+        boolean isPulled(int s, int other) {
+            return effects[s * SEAMS + other] != 0 || effects[other * SEAMS + s] != 0;
+        }
+
         /** Puts a pin; put again by as much the other way, all is as it was. */
         void put(int s, int eighths) {
             for (int other = 0; other < seams; other++) {
@@ -1638,21 +1643,34 @@ public final class SecondFitting {
 
         /** Finds the first row of just so many pins at seams from one on; so deep at most as there are seams. */
         private boolean rowFrom(int s, int count) {
+            int wrongOnes = board.wrongOnes();
             if (count == 0) {
-                return board.wrongOnes() == 0;
+                return wrongOnes == 0;
             }
             if (s < 0 || s >= board.seams) {
                 return false;
             }
             if (count == 1) {
-                return lastFrom(s);
+                return lastFrom(s, wrongOnes);
             }
+            boolean isOfUse = canTouch(wrongOnes & ~board.touched[s], s + 1, count - 1);
             for (int eighths = -FARTHEST_PIN; eighths <= FARTHEST_PIN; eighths++) {
-                if (eighths == 0 ? rowFrom(s + 1, count) : rowBehind(s, eighths, count)) {
+                if (eighths == 0 ? rowFrom(s + 1, count) : isOfUse && rowBehind(s, eighths, count)) {
                     return true;
                 }
             }
             return false;
+        }
+
+        /** Whether so many pins at seams from one on touch all of some; so deep at most as there are seams. */
+        private boolean canTouch(int bits, int s, int count) {
+            if (bits == 0) {
+                return true;
+            }
+            if (count <= 0 || s < 0 || s >= board.seams) {
+                return false;
+            }
+            return canTouch(bits & ~board.touched[s], s + 1, count - 1) || canTouch(bits, s + 1, count);
         }
 
         private boolean rowBehind(int s, int eighths, int count) {
@@ -1672,8 +1690,7 @@ public final class SecondFitting {
          * The last pin isn't tried but reckoned, as it would be tried too often. A pin in at a seam comes ahead of all
          * at later ones, a pin out behind all of them.
          */
-        private boolean lastFrom(int s) {
-            int wrongOnes = board.wrongOnes();
+        private boolean lastFrom(int s, int wrongOnes) {
             for (int at = s; at < board.seams; at++) {
                 if ((wrongOnes & ~board.touched[at]) == 0 && lastAt(at, -FARTHEST_PIN, -1)) {
                     return true;
@@ -1741,7 +1758,7 @@ public final class SecondFitting {
             bestRounds = NOTHING;
             int limit = ROUNDS;
             for (int tries = 0; tries < ALL_ORDERS; tries++) {
-                int rounds = roundsUpTo(limit);
+                int rounds = isLikeEarlier() ? NOTHING : roundsUpTo(limit);
                 if (rounds >= 0) {
                     bestRounds = rounds;
                     System.arraycopy(order, 0, bestOrder, 0, SEAMS);
@@ -1752,6 +1769,16 @@ public final class SecondFitting {
                     return;
                 }
             }
+        }
+
+        /** Whether two side by side that don't pull at one another could change places: that order came earlier. */
+        private boolean isLikeEarlier() {
+            for (int i = 1; i < board.seams; i++) {
+                if (order[i - 1] > order[i] && !board.isPulled(order[i - 1], order[i])) {
+                    return true;
+                }
+            }
+            return false;
         }
 
         private void firstOrder() {

@@ -50,7 +50,8 @@ final class ActEdges {
         x.days(20);
         told.fine(x, "60", x.wear(60), 61);
         told.fine(x, "18", x.wear(18), 79);
-        told.terms("ACTS: PIN, DAYS go by (NOW is a day, 0 at first; 99 at most), WEAR (days that go by, and it is worn).");
+        told.terms("ACTS: PIN, DAYS go by (NOW is a day, 0 at first; 99 at most), WEAR (days that go by, and it is"
+            + " worn).");
         told.due("the last day", x.size(8), 99);
         told.due("no day more", x.days(1), -1);
         told.due("no day more, trouble", x.trouble(), 3);
@@ -225,7 +226,8 @@ final class ActEdges {
     }
 
     private void size() {
-        told.of(57, "0 within, 1 the wedding, 2 measures, 3 seams, 4 pulls, 5 stripes, 6 feasts, 7 READ, 8 the day NOW, 9 days of WEAR,"
+        told.of(57, "0 within, 1 the wedding, 2 measures, 3 seams, 4 pulls, 5 stripes, 6 feasts, 7 READ, 8 the day"
+            + " NOW, 9 days of WEAR,"
             + " 10 ACTS that can be undone, 11 MARKS, 12 bytes of THE TAPE.");
         int[] full = {9, 99, 6, 6, 12, 4, 6, 8, 99, 60, 16, 3, 1000};
         int[] worked = {1, 30, 2, 4, 2, 2, 2, 2, 13, 11, 3, 2, 40};
@@ -284,7 +286,8 @@ final class ActEdges {
         told.due("again", x.trouble(), 6);
         // What answers -2, 0 or 100 isn't refused.
         x = Makers.bare(plain("a", 99, 0), Makers.seam("b", "striped", 100, 0), "stripe b a 2");
-        String[] names = {"fewest", "best", "settles", "orders", "before", "better", "judge", "truly", "meetBy", "pull", "meets"};
+        String[] names = {"fewest", "best", "settles", "orders", "before", "better", "judge", "truly", "meetBy",
+            "pull", "meets"};
         int[] due = {-2, -2, -2, -2, -2, -2, -2, -2, 100, 0, 0};
         for (int i = 0; i < names.length; i++) {
             x.seam(9, 9);

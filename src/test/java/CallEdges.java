@@ -3,11 +3,11 @@ import java.util.Map;
 import java.util.function.Supplier;
 
 /**
- * By which numbers each call is refused: every argument at its bounds, one below the least and one above the greatest, of
- * two that are wrong the first number, and all without a SUIT.
+ * By which numbers each call is refused: every argument at its bounds, one below the least and one above the greatest,
+ * of two that are wrong the first number, and all without a SUIT.
  */
 final class CallEdges {
-    /** The least and the greatest that is taken of an argument, by which number others are refused, one that is fine. */
+    /** The least and the greatest of an argument that are taken, by which number others are refused, a fine one. */
     private record Argument(int least, int greatest, int trouble, int fine) { }
 
     // What is there of each in the coat that was worked on: it is day 13 there.
@@ -273,7 +273,7 @@ final class CallEdges {
         return x;
     }
 
-    /** Of a day and a seam, or a place in an order; on day 20 there is none, but what is told ahead of it comes first. */
+    /** Of a day and a seam, or a place in an order; on day 20 there is none, but what is told ahead comes first. */
     private void foundOnSomeDays(String name, long answer) {
         for (int day : new int[] {0, 9}) {
             for (int i : new int[] {0, 3}) {

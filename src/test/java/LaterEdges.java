@@ -1,4 +1,4 @@
-/** Promises 32 to 47 but 43, and what Terms III say of them: chances, visits, what he is, stripes, what gives, months. */
+/** Promises 32 to 47 but 43, and what Terms III say of them: chances, visits, what he is, what gives, months. */
 final class LaterEdges {
     private final Sentences told;
 
@@ -28,7 +28,8 @@ final class LaterEdges {
     }
 
     private static SecondFitting grows(int grows, String... lines) {
-        return Makers.made("suit within 0 wedding 50;measure m body 100 holds 0 grows " + grows, String.join(";", lines));
+        String head = "suit within 0 wedding 50;measure m body 100 holds 0 grows " + grows;
+        return Makers.made(head, String.join(";", lines));
     }
 
     private void odds(String what, SecondFitting x, int day, long upper, long lower) {
@@ -71,7 +72,8 @@ final class LaterEdges {
         odds("0 by 1 with feasts", Makers.bare(plain("a", 99, 0), "feast 0 chance 37"), 99, 0, 1);
         odds("1 by 1", Makers.bare(plain("a", 100, 0), "feast 0 chance 0"), 99, 1, 1);
         odds("lowest terms", Makers.bare(plain("a", 100, 0), "feast 0 chance 20"), 99, 4, 5);
-        String six = ";feast 0 chance 99;feast 1 chance 99;feast 2 chance 99;feast 3 chance 99;feast 4 chance 99;feast 5 chance 99";
+        String six = ";feast 0 chance 99;feast 1 chance 99;feast 2 chance 99;feast 3 chance 99;feast 4 chance 99"
+            + ";feast 5 chance 99";
         odds("none of six", Makers.bare(plain("a", 100, 0) + six), 99, 1, 1000000000000L);
         // 1 less 99 times itself, six times, by 100 likewise.
         odds("not all of six", Makers.bare(plain("a", 105, 0) + six), 99, 58519850599L, 1000000000000L);
@@ -92,7 +94,8 @@ final class LaterEdges {
     }
 
     private void leave() {
-        told.of(34, "The least that must be left (0 at least), in place of what is, for ENOUGH on the wedding to be so many in a hundred"
+        told.of(34, "The least that must be left (0 at least), in place of what is, for ENOUGH on the wedding to be"
+            + " so many in a hundred"
             + " (0 .. 100) at least.");
         String feasts = ";feast 1 chance 50;feast 50 chance 50;feast 51 chance 100";
         SecondFitting x = Makers.bare(plain("a", 99, 20), plain("b", 200, 0) + feasts);
@@ -140,13 +143,15 @@ final class LaterEdges {
         told.fine(Makers.bare(plain("a", 100, 0)), "one", Makers.bare(plain("a", 100, 0)).visits(), 1);
         told.terms("behind each the next is the first day on which some measure that has a seam has grown by more than"
             + " within since that one.");
-        String feasts = ";feast 1 chance 0;feast 2 chance 0;feast 3 chance 0;feast 4 chance 0;feast 5 chance 0;feast 6 chance 0";
+        String feasts = ";feast 1 chance 0;feast 2 chance 0;feast 3 chance 0;feast 4 chance 0;feast 5 chance 0"
+            + ";feast 6 chance 0";
         String head = " wedding 50;measure m body 100 holds 0 grows 1;measure k body 100 holds 0 grows 9;";
         visitDays("each feast", Makers.made("suit within 0" + head + plain("a", 100, 0) + feasts), 0, 1, 2, 3, 4, 5, 6);
         visitDays("each second", Makers.made("suit within 1" + head + plain("a", 100, 0) + feasts), 0, 2, 4, 6);
         visitDays("each fourth", Makers.made("suit within 3" + head + plain("a", 100, 0) + feasts), 0, 4);
         visitDays("by 6 of 6", Makers.made("suit within 6" + head + plain("a", 100, 0) + feasts), 0);
-        visitDays("by 9 of 9", Makers.made("suit within 9" + head + plain("a", 100, 0).replace(" m ", " k ") + feasts), 0, 2, 4, 6);
+        String ofK = plain("a", 100, 0).replace(" m ", " k ");
+        visitDays("by 9 of 9", Makers.made("suit within 9" + head + ofK + feasts), 0, 2, 4, 6);
         visitDays("it doesn't grow", grows(0, plain("a", 100, 0) + feasts), 0);
         told.of(36, "The day of the i-th.");
         told.due("the first is NOW", Makers.worked().visitAt(0), 13);
@@ -159,7 +164,8 @@ final class LaterEdges {
     }
 
     private void when() {
-        told.terms("WHEN: all seams cut on a day (0 up to the wedding) to what is MEASURED then: the day by which all that is"
+        told.terms("WHEN: all seams cut on a day (0 up to the wedding) to what is MEASURED then: the day by which"
+            + " all that is"
             + " AMISS standing on the wedding, without signs, together is least; the first such.");
         String head = "suit within 0 wedding 1;measure m body 100 holds 20 grows 9;measure k body 100 holds 0 grows 9;";
         cut("on the wedding", Makers.made(head + plain("a", 500, 0), "feast 1 chance 0"), 1, 20);
@@ -178,14 +184,16 @@ final class LaterEdges {
     }
 
     private void truths(String what, String lines, int least, int greatest) {
-        SecondFitting x = Makers.made("suit within 0 wedding 50;measure m body 100 holds 4 grows 2;measure k body 100 holds 0 grows 0;"
+        SecondFitting x = Makers.made("suit within 0 wedding 50;measure m body 100 holds 4 grows 2"
+            + ";measure k body 100 holds 0 grows 0;"
             + plain("a", 100, 0) + lines);
         told.fine(x, what + ", least", x.truly(0, false), least);
         told.fine(x, what + ", greatest", x.truly(0, true), greatest);
     }
 
     private void truly() {
-        told.terms("TRULY: by all that was READ of a measure: BODY as told is at least READ less what it has grown up to that"
+        told.terms("TRULY: by all that was READ of a measure: BODY as told is at least READ less what it has grown"
+            + " up to that"
             + " day, at most so much and what it holds: the least and the greatest that can be.");
         truths("one", ";read m 0 97", 97, 101);
         truths("two", ";read m 0 97;read m 0 99", 99, 101);
@@ -200,17 +208,20 @@ final class LaterEdges {
         truths("none that can be", ";read m 0 97;read m 0 102", -2, -2);
         truths("nothing was READ", "", -2, -2);
         truths("nothing of it was READ", ";read k 0 97", -2, -2);
-        truths("eight", ";read m 0 97;read m 0 98;read m 0 99;read m 0 100;read m 0 99;read m 0 98;read m 0 97;read m 0 101", 101, 101);
+        truths("eight", ";read m 0 97;read m 0 98;read m 0 99;read m 0 100;read m 0 99;read m 0 98;read m 0 97"
+            + ";read m 0 101", 101, 101);
     }
 
     private void widest(String what, String lines, int due) {
-        SecondFitting x = Makers.made("suit within 0 wedding 50;measure m body 100 holds 4 grows 2;measure k body 100 holds 4 grows 0;"
+        SecondFitting x = Makers.made("suit within 0 wedding 50;measure m body 100 holds 4 grows 2"
+            + ";measure k body 100 holds 4 grows 0;"
             + "measure l body 100 holds 0 grows 0;" + plain("a", 100, 0) + lines);
         told.fine(x, what, x.widest(), due);
     }
 
     private void widest() {
-        told.of(40, "The measure of which TRULY tells least: greatest less least is most (one never READ tells less than any; one of which"
+        told.of(40, "The measure of which TRULY tells least: greatest less least is most (one never READ tells less"
+            + " than any; one of which"
             + " there is none such most), the first such; -2 there is no measure.");
         widest("none READ", "", 0);
         widest("the second isn't READ", ";read m 0 97;read l 0 97", 1);
@@ -227,7 +238,8 @@ final class LaterEdges {
     }
 
     private void judged(String what, String lines, int due) {
-        SecondFitting x = Makers.made("suit within 0 wedding 50;measure m body 100 holds 4 grows 2;" + plain("a", 100, 0) + lines);
+        SecondFitting x = Makers.made("suit within 0 wedding 50;measure m body 100 holds 4 grows 2;"
+            + plain("a", 100, 0) + lines);
         told.fine(x, what, x.judge(), due);
     }
 
@@ -268,7 +280,8 @@ final class LaterEdges {
     }
 
     private void meetBy() {
-        told.of(44, "The PIN at its first seam of fewest eighths by which a STRIPE MEETS (pulls, too), out ahead of in; 0 if it does;"
+        told.of(44, "The PIN at its first seam of fewest eighths by which a STRIPE MEETS (pulls, too), out ahead of"
+            + " in; 0 if it does;"
             + " 100 if none does.");
         meets("it does", plain("a", 107, 9), "", 7, 0);
         meets("out by 1", plain("a", 107, 1), "", 0, 1);
@@ -290,7 +303,8 @@ final class LaterEdges {
     }
 
     private void tight() {
-        told.of(45, "Which SIZE a seam must have NOW so that nothing is AMISS standing on that day behind so many days of WEAR more"
+        told.of(45, "Which SIZE a seam must have NOW so that nothing is AMISS standing on that day behind so many"
+            + " days of WEAR more"
             + " (0 .. 90), from NOW on.");
         SecondFitting x = Makers.bare(Makers.seam("a", "worn", 90, 0), plain("b", 90, 0),
             "feast 0 chance 0;feast 30 chance 0;feast 90 chance 1;feast 99 chance 1");
@@ -332,7 +346,8 @@ final class LaterEdges {
 
     private void month() {
         told.terms("A MONTH by a SEED: each feast up to the wedding is kept if a DRAW mod 100 is below its chance"
-            + " (SEED becomes (75 times SEED and 74) mod 65,537): all that is AMISS standing on the wedding, without signs, together;");
+            + " (SEED becomes (75 times SEED and 74) mod 65,537): all that is AMISS standing on the wedding,"
+            + " without signs, together;");
         // The first DRAW by 0 is 74, by 3 it is 299, by 1,748 it is 131,174, and that is 100.
         int[][] due = {{0, 74, 0}, {0, 75, 1}, {3, 99, 0}, {3, 100, 1}, {1748, 0, 0}, {1748, 1, 1}};
         for (int[] one : due) {

@@ -89,7 +89,7 @@ final class Look {
     }
 
     private void wholes() {
-        for (String name : new String[] {"until", "visits", "when", "whenAmiss", "widest", "judge", "before", "better"}) {
+        for (String name : "until visits when whenAmiss widest judge before better".split(" ")) {
             see(name);
         }
         see("visitAt", 1);

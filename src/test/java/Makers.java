@@ -14,9 +14,11 @@ final class Makers {
         + "measure e body 100 holds 3 grows 3;measure f body 100 holds 4 grows 4;"
         + "seam g plain at a size 20 left 20;seam h striped at b size 500 left 0;seam i pulling at c size 109 left 9;"
         + "seam j worn at d size 91 left 9;seam k plain at e size 100 left 0;seam l striped at f size 100 left 8;"
-        + "pull g h 4;pull h g 4;pull g i 1;pull i g 1;pull g j 2;pull j g 2;pull g k 3;pull k g 3;pull g l 1;pull l g 1;"
+        + "pull g h 4;pull h g 4;pull g i 1;pull i g 1;pull g j 2;pull j g 2;pull g k 3;pull k g 3;pull g l 1;"
+        + "pull l g 1;"
         + "pull i j 1;pull j i 1;stripe g h 7;stripe h i 0;stripe i j 7;stripe l k 0;"
-        + "feast 0 chance 0;feast 1 chance 100;feast 50 chance 1;feast 97 chance 99;feast 98 chance 50;feast 99 chance 50;"
+        + "feast 0 chance 0;feast 1 chance 100;feast 50 chance 1;feast 97 chance 99;feast 98 chance 50;"
+        + "feast 99 chance 50;"
         + "read a 0 60;read a 99 500;read b 0 400;read c 1 101;read d 1 102;read d 1 103;read e 0 97;read f 50 104";
 
     private Makers() {
@@ -69,7 +71,8 @@ final class Makers {
 
     /** As bare, but with a within, and the body doesn't grow. */
     static SecondFitting within(int within, String... lines) {
-        return made("suit within " + within + " wedding 50;measure m body 100 holds 0 grows 0;" + String.join(";", lines));
+        String head = "suit within " + within + " wedding 50;measure m body 100 holds 0 grows 0";
+        return made(head, String.join(";", lines));
     }
 
     static SecondFitting made(String... lines) {

@@ -191,7 +191,8 @@ final class NowEdges {
         told.terms("BODY of a measure on a day: as told, and grows more for each feast up to that day, that one too.");
         SecondFitting x = Makers.made("suit within 0 wedding 5;measure m body 40 holds 20 grows 9;"
             + "measure k body 400 holds 0 grows 0;" + Makers.plain("s", 100, 0),
-            "feast 0 chance 0;feast 9 chance 0;feast 10 chance 100;feast 50 chance 1;feast 98 chance 1;feast 99 chance 1");
+            "feast 0 chance 0;feast 9 chance 0;feast 10 chance 100;feast 50 chance 1;feast 98 chance 1"
+                + ";feast 99 chance 1");
         int[][] days = {{0, 49}, {8, 49}, {9, 58}, {10, 67}, {49, 67}, {50, 76}, {97, 76}, {98, 85}, {99, 94}};
         for (int[] day : days) {
             told.due("on " + day[0], x.body(0, day[0]), day[1]);
@@ -289,7 +290,8 @@ final class NowEdges {
         String six = Makers.six(103, 97);
         told.due("all six", Makers.within(2, six).wrong(0, 0), 63);
         told.due("none", Makers.within(3, six).wrong(0, 0), 0);
-        told.due("the last", Makers.within(3, six.replace("f plain at m size 97", "f worn at m size 96")).wrong(0, 0), 32);
+        String last = six.replace("f plain at m size 97", "f worn at m size 96");
+        told.due("the last", Makers.within(3, last).wrong(0, 0), 32);
     }
 
     private void pins() {
@@ -340,7 +342,8 @@ final class NowEdges {
     private void stripes() {
         told.terms("STRIPE of two seams MEETS if SIZE of the first less that of the second, by 8, leaves WHOLE"
             + " (0 .. 7 also of what is below 0).");
-        int[][] due = {{-17, 7}, {-16, 0}, {-9, 7}, {-8, 0}, {-7, 1}, {-1, 7}, {0, 0}, {1, 1}, {7, 7}, {8, 0}, {9, 1}, {15, 7}};
+        int[][] due = {{-17, 7}, {-16, 0}, {-9, 7}, {-8, 0}, {-7, 1}, {-1, 7},
+            {0, 0}, {1, 1}, {7, 7}, {8, 0}, {9, 1}, {15, 7}};
         for (int[] off : due) {
             String seams = Makers.plain("a", 100 + off[0], 0) + ";" + Makers.plain("b", 100, 0) + ";stripe a b ";
             told.due("by " + off[0], Makers.bare(seams + off[1]).meets(), 1);
@@ -363,7 +366,8 @@ final class NowEdges {
         told.fine(x, "all four", x.meets(), 15);
         x.pin(2, 1);
         told.fine(x, "two of them", x.meets(), 9);
-        told.fine(Makers.bare(Makers.plain("a", 100, 0)), "none there", Makers.bare(Makers.plain("a", 100, 0)).meets(), 0);
+        x = Makers.bare(Makers.plain("a", 100, 0));
+        told.fine(x, "none there", x.meets(), 0);
     }
 
     private void seamAndPull() {

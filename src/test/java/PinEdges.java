@@ -192,7 +192,8 @@ final class PinEdges {
         bestAll("nothing is left", Makers.bare(Makers.seam("a", "worn", 100, 0)), -2, 0, 2);
         bestAll("in by 9", Makers.bare(Makers.seam("a", "worn", 120, 0)), 0, -9, 11);
         // 30, 28 and 27: the second in by 9 leaves 21, 19 and 18, the first 21, 19 and 22.
-        bestAll("standing", Makers.bare(Makers.seam("a", "pulling", 110, 0), Makers.seam("b", "worn", 120, 0)), 1, -9, 21);
+        bestAll("standing", Makers.bare(Makers.seam("a", "pulling", 110, 0), Makers.seam("b", "worn", 120, 0)),
+            1, -9, 21);
         bestAll("the first seam", Makers.bare(plain("a", 101, 0), plain("b", 101, 0)), 0, -1, 1);
         told.of(25, "BEST PIN OF ALL POSES: its seam; -2 none.");
         told.due("none", Makers.bare(plain("a", 100, 9)).bestAll(0), -2);
@@ -266,7 +267,8 @@ final class PinEdges {
     }
 
     private void rounds() {
-        told.terms("one behind the other, round and round: SETTLES behind as many rounds (0 .. 20) as it takes till IT FITS"
+        told.terms("one behind the other, round and round: SETTLES behind as many rounds (0 .. 20) as it takes till"
+            + " IT FITS"
             + " standing.");
         settles("at once", Makers.bare(plain("a", 100, 0)), 0);
         settles("at once, within", Makers.within(9, plain("a", 109, 0), plain("b", 91, 0)), 0);

@@ -9,8 +9,8 @@ import java.util.function.Supplier;
 import java.util.function.ToLongFunction;
 
 /**
- * The document's sentences, each with the checks that stand behind it. A sentence is told by its words, which must stand
- * in the document; at the end no words of a promise may be left over that no check was told for.
+ * The document's sentences, each with the checks that stand behind it. A sentence is told by its words, which must
+ * stand in the document; at the end no words of a promise may be left over that no check was told for.
  */
 final class Sentences {
     private static final int TERMS = 0;

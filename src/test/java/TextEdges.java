@@ -179,7 +179,7 @@ final class TextEdges {
             SecondFitting x = Check.fitting(ONE.replace("plain", kinds[kind]));
             told.fine(x, kinds[kind], x.seam(0, 0), kind);
         }
-        for (String kind : new String[] {"plains", "plai", "stripe", "stripes", "pull", "pulled", "wornx", "seam", "s"}) {
+        for (String kind : "plains plai stripe stripes pull pulled wornx seam s".split(" ")) {
             faulty(ONE.replace("plain", kind), 1, ONE.indexOf("plain"));
         }
         whole(Makers.BARE + "seam s plain at m size ", 20, 500, " left 0", 1);
@@ -261,7 +261,8 @@ final class TextEdges {
     }
 
     private void names() {
-        told.terms("NAMES are WORDS but suit, measure, seam, pull, stripe, feast, read; each told once, ahead of its use.");
+        told.terms("NAMES are WORDS but suit, measure, seam, pull, stripe, feast, read; each told once, ahead of"
+            + " its use.");
         for (String name : RESERVED) {
             faulty(ONE.replace("seam s", "seam " + name), 1, ONE.indexOf("seam s") + 5);
             faulty(ONE.replace("measure m", "measure " + name), 1, ONE.indexOf("measure m") + 8);
@@ -270,7 +271,8 @@ final class TextEdges {
             faultyAtLast(ONE + ";stripe s " + name, 1);
             faultyAtLast(Makers.BARE + "seam s plain at " + name, 1);
         }
-        for (String name : "within wedding body holds grows plain striped pulling worn at size left chance suits".split(" ")) {
+        String others = "within wedding body holds grows plain striped pulling worn at size left chance suits";
+        for (String name : others.split(" ")) {
             taken(ONE.replace("seam s", "seam " + name), 1);
             taken(ONE.replace("measure m", "measure " + name).replace("at m", "at " + name), 1);
         }
@@ -301,7 +303,8 @@ final class TextEdges {
     }
 
     private void form() {
-        told.terms("1 FORM: the first byte that begins no TOKEN, or TOKEN with which no SUIT goes on (the end: its place).");
+        told.terms("1 FORM: the first byte that begins no TOKEN, or TOKEN with which no SUIT goes on (the end: its"
+            + " place).");
         faulty("", 1, 0);
         faulty(" ", 1, 1);
         faulty("?", 1, 0);
@@ -386,7 +389,8 @@ final class TextEdges {
         String six = sixSeams();
         faulty(six + ";seam", 5, six.length() + 1);
         faulty(six + ";  seam ?", 5, six.length() + 3);
-        String full = six + ";feast 1 chance 1;feast 2 chance 1;feast 3 chance 1;feast 4 chance 1;feast 5 chance 1;feast 6 chance 1";
+        String full = six + ";feast 1 chance 1;feast 2 chance 1;feast 3 chance 1;feast 4 chance 1;feast 5 chance 1"
+            + ";feast 6 chance 1";
         faulty(full + ";feast 100", 5, full.length() + 1);
         // Room for one sort is none for another.
         taken(full + ";read m 0 60".repeat(8), 6);
