@@ -805,6 +805,10 @@ public final class SecondFitting {
         int bodyBy(int m, int feasts) {
             return told[m] + grownBy(m, feasts);
         }
+
+        int measuredBy(int m, int feasts) {
+            return bodyBy(m, feasts) - holds[m];
+        }
     }
 
     /** Feasts by their days, and how many of them are kept, by chances or by draws. */
@@ -987,7 +991,7 @@ public final class SecondFitting {
         }
 
         int measuredOn(int m, int day) {
-            return bodyOn(m, day) - measures.holds[m];
+            return measures.measuredBy(m, feasts.upTo(day));
         }
 
         int gives(int s, int wear) {
@@ -1088,17 +1092,23 @@ public final class SecondFitting {
 
         /** What is AMISS together on the wedding if all was cut to what is MEASURED on a day. */
         int sumIfCut(int day) {
+            int kept = feasts.upTo(day);
+            int keptInAll = feasts.upTo(wedding);
             int sum = 0;
             for (int s = 0; s < cloth.seams; s++) {
-                sum += Math.abs(measuredOn(cloth.at[s], day) - bodyOn(cloth.at[s], wedding));
+                int m = cloth.at[s];
+                sum += Math.abs(measures.measuredBy(m, kept) - measures.bodyBy(m, keptInAll));
             }
             return sum;
         }
 
         int bestCutDay() {
             int bestDay = 0;
+            int least = sumIfCut(0);
             for (int day = 1; day <= wedding; day++) {
-                if (sumIfCut(day) < sumIfCut(bestDay)) {
+                int sum = sumIfCut(day);
+                if (sum < least) {
+                    least = sum;
                     bestDay = day;
                 }
             }

@@ -11,8 +11,10 @@ import java.util.HashSet;
 import java.util.List;
 import java.util.Set;
 import java.util.TreeSet;
+import java.util.regex.Matcher;
+import java.util.regex.Pattern;
 
-/** The public face, and what LANGUAGE.md says of the file that a test can see. */
+/** The public face as the document tells it, and what LANGUAGE.md says of the file that a test can see. */
 public final class FaceTest {
     private static final String FACE = """
         boolean back(int) boolean undo() int amiss(int,int,int) int before() int best(int) int bestAll(int)
@@ -27,6 +29,7 @@ public final class FaceTest {
         long enough(int,int,boolean)
         """;
     private static final Path SOURCE = Path.of("src/main/java/SecondFitting.java");
+    private static final Path DOCUMENT = Path.of("../shared/DOC.md");
 
     private static final List<String> BAD = new ArrayList<>();
 
@@ -36,7 +39,16 @@ public final class FaceTest {
     public static void main(String[] args) throws IOException {
         members();
         nested();
-        source();
+        String source = Files.readString(SOURCE);
+        signs(source);
+        lengths(source);
+        if (Files.isReadable(DOCUMENT)) {
+            String document = Files.readString(DOCUMENT);
+            asInDocument(source, document);
+            parts(source, document);
+        } else {
+            System.out.println("no document at " + DOCUMENT + ": its face isn't looked at");
+        }
         for (String bad : BAD) {
             System.out.println(bad);
         }
@@ -64,6 +76,9 @@ public final class FaceTest {
             if (Modifier.isPublic(method.getModifiers())) {
                 found.add(method.getReturnType() + " " + method.getName() + "("
                     + String.join(",", Arrays.stream(method.getParameterTypes()).map(Class::getName).toList()) + ")");
+                String thrown = Arrays.toString(method.getExceptionTypes());
+                need(thrown.equals(method.getName().equals("led") ? "[class java.util.NoSuchElementException]" : "[]"),
+                    "thrown by " + method + ": " + thrown);
             } else {
                 need(Modifier.isPrivate(method.getModifiers()), "not private: " + method);
             }
@@ -107,21 +122,23 @@ public final class FaceTest {
         }
     }
 
-    private static void source() throws IOException {
-        String text = Files.readString(SOURCE);
+    private static void signs(String source) {
         for (String banned : new String[] {"->", "::", "Exact", "finally", "synchronized", "assert ", "catch", "try {",
             "instanceof", "\npackage ", "double", "float", ".equals(", "System.out", "new Thread", "Random", "nanoTime"}) {
-            need(!text.contains(banned), "the file has " + banned.strip());
+            need(!source.contains(banned), "the file has " + banned.strip());
         }
-        for (String line : text.split("\n")) {
+        for (String line : source.split("\n")) {
             need(!line.startsWith("import ") || line.equals("import java.util.Arrays;")
                 || line.equals("import java.util.NoSuchElementException;"), line);
             need(line.length() <= 120, "too long: " + line);
         }
-        need(text.chars().allMatch(sign -> sign < 128), "signs beyond 127");
+        need(source.chars().allMatch(sign -> sign < 128), "signs beyond 127");
+    }
+
+    private static void lengths(String source) {
         int begun = 0;
         int number = 0;
-        for (String line : text.split("\n")) {
+        for (String line : source.split("\n")) {
             number++;
             if (line.matches("    (    )?(public|private|static|boolean|int|long|void|Plan|Fitting).*\\) ?(throws \\w+ )?\\{")) {
                 begun = number;
@@ -131,5 +148,45 @@ public final class FaceTest {
                 begun = 0;
             }
         }
+    }
+
+    /** Each line of the interface, and the face of each promise, stands in the file by its words. */
+    private static void asInDocument(String source, String document) {
+        int begun = document.indexOf("```java\n") + "```java\n".length();
+        String face = document.substring(begun, document.indexOf("```", begun));
+        int lines = 0;
+        for (String line : face.split("\n")) {
+            String words = line.endsWith(");") || line.contains("throws")
+                ? line.substring(0, line.lastIndexOf(';')) + " {" : line;
+            need(words.isBlank() || source.contains("\n" + words + "\n"), "isn't in the file: " + words);
+            lines += line.startsWith("    public ") ? 1 : 0;
+        }
+        need(lines == 59, "lines of the interface: " + lines);
+        Matcher promise = Pattern.compile("\n## Promise \\d+: .*\n\n`([^`]+)`").matcher(document);
+        int promises = 0;
+        while (promise.find()) {
+            need(face.contains(" " + promise.group(1) + ";"), "isn't in the interface: " + promise.group(1));
+            promises++;
+        }
+        need(promises == 58, "promises: " + promises);
+    }
+
+    /** The calls stand in the file under what the interface says ahead of them, in its order. */
+    private static void parts(String source, String document) {
+        Matcher part = Pattern.compile("Ahead of the calls (.*) the interface says: (.*)\\.\n").matcher(document);
+        int parts = 0;
+        while (part.find()) {
+            parts++;
+            int begun = source.indexOf("    // " + part.group(2) + "\n");
+            need(begun >= 0, "isn't said in the file: " + part.group(2));
+            String behind = source.substring(Math.max(0, begun) + 1);
+            Matcher call = Pattern.compile("\n    public \\w+ (\\w+)\\(").matcher(behind.split("    // ----")[0]);
+            List<String> found = new ArrayList<>();
+            while (call.find()) {
+                found.add("`" + call.group(1) + "`");
+            }
+            need(part.group(1).equals(String.join(", ", found)), part.group(2) + ": " + found);
+        }
+        need(parts == 10, "parts of the interface: " + parts);
     }
 }
