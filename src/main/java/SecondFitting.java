@@ -45,6 +45,7 @@ public final class SecondFitting {
     private static final int MOST_MONTHS = 60;
     private static final int LAST_SEED = 65536;
     private static final int FARTHEST_PIN = 9;
+    private static final int FARTHEST_EVEN_PIN = 8;
     private static final int MOST_PINS = 3;
     private static final int ROUNDS = 20;
     private static final int ALL_ORDERS = 720;
@@ -1744,6 +1745,8 @@ public final class SecondFitting {
         private final int[] offAtFirst = new int[SEAMS];
         private final int[] leftAtFirst = new int[SEAMS];
         private final int[] order = new int[SEAMS];
+        // The PIN at each seam in the latest round.
+        private final int[] pinned = new int[SEAMS];
         final int[] bestOrder = new int[SEAMS];
         int bestRounds = NOTHING;
 
@@ -1829,29 +1832,53 @@ public final class SecondFitting {
 
         private int roundsUpTo(int limit) {
             layAgain();
+            Arrays.fill(pinned, 0);
             for (int rounds = 0; rounds <= limit; rounds++) {
                 if (board.wrongOnes() == 0) {
                     return rounds;
                 }
-                // A round that pins nothing is like all that would follow.
-                if (rounds < limit && !pinsInRound()) {
+                if (rounds < limit && pinsAlike() && goesOnAlike()) {
                     return NOTHING;
                 }
             }
             return NOTHING;
         }
 
-        private boolean pinsInRound() {
-            boolean some = false;
+        /** Pins a round; whether all pins are those of the round ahead of it (of the first: there are none). */
+        private boolean pinsAlike() {
+            boolean alike = true;
             for (int i = 0; i < board.seams; i++) {
                 int s = order[i];
                 int eighths = byEye(s);
+                if (eighths != pinned[s]) {
+                    pinned[s] = eighths;
+                    alike = false;
+                }
                 if (eighths != 0) {
                     board.put(s, eighths);
-                    some = true;
                 }
             }
-            return some;
+            return alike;
+        }
+
+        /**
+         * Behind two rounds that are alike: whether all others will be, too, so that what is wrong stays so. What is
+         * pinned in alone is not bound by what is left. A seam that no round changes is pinned as before; one that each
+         * makes too large by more than a pin takes away is pinned as far as it goes, and is never small enough again.
+         */
+        private boolean goesOnAlike() {
+            for (int s = 0; s < board.seams; s++) {
+                int more = 0;
+                for (int other = 0; other < board.seams; other++) {
+                    more += board.effects[other * SEAMS + s] * pinned[other];
+                }
+                boolean staysAsItIs = more == 0 && pinned[s] <= 0;
+                boolean growsOn = more > 0 && pinned[s] <= -FARTHEST_EVEN_PIN;
+                if (!staysAsItIs && !growsOn) {
+                    return false;
+                }
+            }
+            return true;
         }
 
         private int byEye(int s) {

@@ -106,7 +106,9 @@ public final class OracleTest {
     }
 
     private List<String> lines() {
-        int within = pick(0, 3);
+        // One in four is told up to the bounds; the others are such that pins and rounds have something to find.
+        boolean wild = pick(0, 3) == 0;
+        int within = pick(0, wild ? 9 : 3);
         List<String> lines = new ArrayList<>();
         lines.add("suit within " + within + " wedding " + (pick(0, 3) == 0 ? pick(1, 5) : pick(1, 99)));
         int measures = pick(1, pick(0, 4) == 0 ? 6 : 3);
@@ -114,15 +116,15 @@ public final class OracleTest {
         int first = pick(0, NAMES.length - 1);
         int[] bodies = new int[measures];
         for (int m = 0; m < measures; m++) {
-            bodies[m] = pick(50, 120);
-            lines.add("measure " + name(first, m) + " body " + bodies[m] + " holds " + pick(0, pick(0, 1) * 6 + 2)
-                + " grows " + pick(0, 4));
+            bodies[m] = wild ? pick(40, 400) : pick(50, 120);
+            lines.add("measure " + name(first, m) + " body " + bodies[m] + " holds "
+                + pick(0, wild ? 20 : pick(0, 1) * 6 + 2) + " grows " + pick(0, wild ? 9 : 4));
         }
         for (int s = 0; s < seams; s++) {
             int m = pick(0, measures - 1);
-            int off = pick(0, 2) == 0 ? pick(-2, 2) : pick(-9, 12);
+            int off = pick(0, 2) == 0 ? pick(-2, 2) : wild ? pick(-20, 100) : pick(-9, 12);
             lines.add("seam " + name(first, measures + s) + " " + Oracle.KINDS.get(pick(0, 3)) + " at "
-                + name(first, m) + " size " + (bodies[m] + off) + " left " + pick(0, 12));
+                + name(first, m) + " size " + (bodies[m] + off) + " left " + pick(0, wild ? 20 : 12));
         }
         int pulls = seams < 2 ? 0 : pick(0, pick(0, 3) == 0 ? Math.min(12, seams * (seams - 1)) : Math.min(3, seams));
         List<List<Integer>> used = new ArrayList<>();
@@ -151,7 +153,8 @@ public final class OracleTest {
         }
         for (int r = pick(0, 6); r > 0; r--) {
             int m = pick(0, measures - 1);
-            lines.add("read " + name(first, m) + " " + pick(0, 99) + " " + Math.max(60, bodies[m] + pick(-4, 12)));
+            int by = wild ? pick(-20, 60) : pick(-4, 12);
+            lines.add("read " + name(first, m) + " " + pick(0, 99) + " " + Math.max(60, bodies[m] + by));
         }
         return lines;
     }

@@ -279,6 +279,7 @@ final class PinEdges {
         settles("20 rounds whole", Makers.bare(plain("a", 280, 0)), 20);
         settles("21 rounds", Makers.bare(plain("a", 281, 0)), -2);
         settles("never", Makers.bare(plain("a", 101, 9), plain("b", 100, 9), "pull a b 1;pull b a 1"), -2);
+        roundsAlike();
         SecondFitting x = Makers.bare(plain("a", 272, 0));
         x.settles(0);
         told.due("nothing is pinned by it", x.seam(0, 2), 272);
@@ -286,6 +287,29 @@ final class PinEdges {
         told.of(29, "SETTLES by seams in their order: rounds; -2 it doesn't.");
         settles("by seams", Makers.bare(plain("a", 104, 0), plain("b", 97, 3), "pull b a 1"), 2);
         settles("it doesn't", Makers.bare(plain("a", 99, 0)), -2);
+    }
+
+    /** Rounds that are like the one ahead of them in all pins, and settle nevertheless, or don't. */
+    private void roundsAlike() {
+        // Each is pinned out by 2 and pulls the other back, till of the second just 1 is left.
+        settles("till no more is left",
+            Makers.within(1, plain("a", 98, 17), plain("b", 100, 7), "pull a b 1;pull b a 1"), 4);
+        // The third and the fourth are pinned in by 2 in the second round and in the third; the second, which can't be
+        // pinned, is pulled larger by 2 in each: -5, -3, -1.
+        settles("pulled till it fits", Makers.within(2, plain("a", 104, 0), striped("b", 95, 1), striped("c", 100, 0),
+            striped("d", 98, 0), striped("e", 98, 0),
+            "pull c b 1;pull d c 1;pull e c 1;pull e a 1;pull c d 1;pull b e 1;pull a d 1"), 3);
+        // 9 and -10: the first is pinned by 9, the second is 17 then, and is pinned by 9: 9 and 8. It would grow on.
+        SecondFitting x = Makers.within(9, plain("a", 109, 0), plain("b", 90, 0), "pull a b 3;pull b a 1");
+        for (int times = 0; times < 3; times++) {
+            settles("one round, then never more", x, 1);
+            told.due("by the best order, too", x.orders(0), 1);
+            x.days(1);
+        }
+        settles("it grows on", Makers.within(0, plain("a", 109, 0), plain("b", 90, 0), "pull a b 3;pull b a 1"), -2);
+        settles("striped ones grow on", Makers.within(0, striped("a", 110, 0), striped("b", 110, 0),
+            "pull a b 2;pull b a 2"), -2);
+        settles("in and in again", Makers.within(0, plain("a", 118, 0), striped("b", 116, 0)), 2);
     }
 
     private void order(String what, SecondFitting x, int rounds, int... order) {
